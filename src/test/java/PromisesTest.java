@@ -63,6 +63,12 @@ public final class PromisesTest {
             x.run(x.scan(0));
             Check.due("1 batch " + given[i], x::batches, batches[i]);
         }
+        for (int batch : new int[] {16, 17, MAX}) {
+            BatchPlans x = new BatchPlans(batch, 64);
+            int filter = x.filter(hundredPairs(x), 0, 2, 0);
+            Check.due("1 run", () -> x.run(filter), 100);
+            Check.due("1 100 rows by " + batch, x::batches, 3 + 7);
+        }
         int[] memories = {MIN, 0, 1, 2, 63, 64, 65, MAX};
         int[] held = {1, 1, 1, 2, 63, 64, 64, 64};
         for (int i = 0; i < memories.length; i++) {
@@ -72,15 +78,20 @@ public final class PromisesTest {
         }
     }
 
-    /** A join of one row with 100 groups of one row each, by their counts: a right side of 100 times one key. */
-    private static int hundredSameKeys(BatchPlans x) {
+    /** A join of ten rows with themselves: 7, i, 10i, 7, j, 10j. */
+    private static int hundredPairs(BatchPlans x) {
         for (int i = 0; i < 10; i++) {
             x.row(0, 7, i, 10 * i);
         }
-        x.row(1, 1, 0, 0);
         int ten = x.scan(0);
-        int pairs = x.map(x.join(ten, ten, 0, 0), 2, 0, 4);
-        return x.join(x.scan(1), x.group(pairs, 2, 0), 0, 1);
+        return x.join(ten, ten, 0, 0);
+    }
+
+    /** A join of one row with 100 groups of one row each, by their counts: a right side of 100 times one key. */
+    private static int hundredSameKeys(BatchPlans x) {
+        x.row(1, 1, 0, 0);
+        int different = x.map(hundredPairs(x), 2, 0, 4);
+        return x.join(x.scan(1), x.group(different, 2, 0), 0, 1);
     }
 
     private static void rowAddsToItsTable() {
@@ -224,8 +235,8 @@ public final class PromisesTest {
         x.row(0, 1, 2, 3);
         x.row(0, 4, 2, 6);
         x.row(0, 7, 8, 9);
-        x.row(1, 10, 11, 2);
         x.row(1, 13, 14, 2);
+        x.row(1, 10, 11, 2);
         x.row(1, 16, 17, 9);
         x.scan(0);
         x.scan(1);
@@ -259,7 +270,14 @@ public final class PromisesTest {
         x.row(0, 2, 0, 0);
         Check.due("6 128 rows and one that has no pair", () -> x.run(2), 128);
         x.row(0, 1, 0, 0);
-        Check.dueThrows("6 more than 128 rows", () -> x.run(2), ISE);
+        Check.dueThrows("6 144 rows", () -> x.run(2), ISE);
+        x.clear(true);
+        for (int i = 0; i < 15; i++) {
+            x.row(0, i < 11 ? 1 : 2, i, 0);
+            x.row(1, i < 11 ? 1 : i < 13 ? 2 : 3, i, 0);
+        }
+        x.join(x.scan(0), x.scan(1), 0, 0);
+        Check.dueThrows("6 11 * 11 + 4 * 2 = 129 rows", () -> x.run(2), ISE);
     }
 
     private static void joinRefuses() {
@@ -539,6 +557,7 @@ public final class PromisesTest {
         dueGroupOfTwo("bits 30 and 31", 0, 1, 3);
         dueGroupOfTwo("bits 28 and 29", 0, 2, 6);
         dueGroupOfTwo("bits 26 and 27", 0, 13, 9);
+        dueGroupOfTwo("the last digit of the factor", 0, 1 << 28, 6);
         dueKeysOfTwo("0 and 13 stay together behind level 1", 6, 2, 0, 13, 2);
         dueKeysOfTwo("all are parted at level 2", 9, 1, 0, 13, 68);
         dueKeysOfTwo("none is parted at all", 9, 2, 0, 34, 89);
