@@ -1,9 +1,10 @@
 import java.util.TreeMap;
 
-/** Long runs of drawn calls, each answered by the program as by the model. */
+/** Runs of drawn calls, as many as an object is used for, each answered by the program as by the model. */
 public final class ModelTest {
-    private static final int OBJECTS = 1000;
+    private static final int OBJECTS = 8000;
     private static final int CALLS = 512;
+    private static final int CELLS_OF_A_LOOK = 24;
     private static final int[] EDGES = {Integer.MIN_VALUE, Integer.MAX_VALUE, -1, 1 << 16, -(1 << 15), 46341};
 
     private static final String[] RARE = {"run throws.ArithmeticException", "run throws.IllegalStateException",
@@ -16,6 +17,8 @@ public final class ModelTest {
     private final Model model;
     private final TreeMap<String, Integer> met;
     private final int keys;
+    private final int runsForALook;
+    private int calls = 0;
 
     private ModelTest(int seed, TreeMap<String, Integer> met) {
         draw = new Draw(seed);
@@ -25,6 +28,7 @@ public final class ModelTest {
         plans = new BatchPlans(batch, memory);
         model = new Model(batch, memory);
         keys = 1 + draw.below(draw.below(2) == 0 ? 4 : 24);
+        runsForALook = 1 + draw.below(8);
         this.met = met;
     }
 
@@ -41,7 +45,7 @@ public final class ModelTest {
     }
 
     private void callAll() {
-        for (int i = 0; i < CALLS; i++) {
+        while (calls < CALLS) {
             int kind = draw.below(100);
             callOne(kind >= 58 && model.nodes() < draw.below(12) ? draw.below(58) : kind);
         }
@@ -62,16 +66,16 @@ public final class ModelTest {
         } else if (kind < 96) {
             int node = draw.below(20) == 0 ? choice(12) : model.nodes() - 1 - draw.below(3);
             same("run", () -> plans.run(node), () -> model.run(node));
-            compareResults();
+            lookAtTimes();
         } else if (kind < 98) {
             int k = choice(130);
             int c = choice(6);
             same("cell", () -> plans.cell(k, c), () -> model.cell(k, c));
         } else {
             boolean tables = draw.below(2) == 0;
-            plans.clear(tables);
+            same("clear", () -> cleared(tables), () -> 0);
             model.clear(tables);
-            compareResults();
+            lookAtTimes();
         }
     }
 
@@ -94,6 +98,18 @@ public final class ModelTest {
         }
     }
 
+    private int cleared(boolean tables) {
+        plans.clear(tables);
+        return 0;
+    }
+
+    /** A look takes many calls, and an object has only so many: where looks are rare, plans and tables grow. */
+    private void lookAtTimes() {
+        if (draw.below(runsForALook) == 0) {
+            compareResults();
+        }
+    }
+
     private void compareResults() {
         same("rows", plans::rows, model::rows);
         same("width", plans::width, model::width);
@@ -101,18 +117,22 @@ public final class ModelTest {
         same("written", plans::written, model::written);
         same("held", plans::held, model::held);
         same("nodes", plans::nodes, model::nodes);
-        for (int k = 0; k < model.rows(); k++) {
-            for (int c = 0; c < model.width(); c++) {
-                int row = k;
-                int column = c;
-                same("cell", () -> plans.cell(row, column), () -> model.cell(row, column));
-            }
+        int cells = model.rows() * model.width();
+        for (int i = 0; i < Math.min(cells, CELLS_OF_A_LOOK); i++) {
+            int place = cells > CELLS_OF_A_LOOK ? draw.below(cells) : i;
+            int row = place / model.width();
+            int column = place % model.width();
+            same("cell", () -> plans.cell(row, column), () -> model.cell(row, column));
         }
         count(model.written() > 0, "written");
         count(model.rows() == 128, "128 rows");
     }
 
     private void same(String call, Check.Call got, Check.Call want) {
+        if (calls >= CALLS) {
+            return;
+        }
+        calls++;
         String due = Check.answerOf(want);
         count(due.startsWith("throws"), call + " " + due);
         Check.note(name + call, Check.answerOf(got), due);
