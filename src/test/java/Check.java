@@ -31,6 +31,10 @@ class Check {
         }
     }
 
+    static int checkedSoFar() {
+        return checked;
+    }
+
     static int wrongSoFar() {
         return wrong;
     }

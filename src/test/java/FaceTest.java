@@ -1,7 +1,10 @@
+import java.io.IOException;
 import java.lang.reflect.Constructor;
 import java.lang.reflect.Field;
 import java.lang.reflect.Method;
 import java.lang.reflect.Modifier;
+import java.nio.file.Files;
+import java.nio.file.Path;
 import java.util.Arrays;
 import java.util.TreeSet;
 
@@ -27,16 +30,32 @@ public final class FaceTest {
         "void clear(boolean)",
     };
 
-    public static void main(String[] args) {
+    public static void main(String[] args) throws IOException {
         Class<?> face = BatchPlans.class;
         int asked = Modifier.PUBLIC | Modifier.FINAL;
         Check.note("modifiers of the class", Modifier.toString(face.getModifiers()), Modifier.toString(asked));
+        Check.note("what it extends", face.getSuperclass().getName(), "java.lang.Object");
+        Check.note("what it implements", Arrays.toString(face.getInterfaces()), "[]");
         Check.note("methods that are seen", seenMethods(face).toString(),
                 new TreeSet<>(Arrays.asList(FACE)).toString());
         checkConstructors(face);
         checkFields(face);
         checkInnerClasses(face);
+        checkWords();
         Check.end();
+    }
+
+    /** Parameters' names are not seen by reflection: each line of the document's face stands in the program. */
+    private static void checkWords() throws IOException {
+        String document = Files.readString(Path.of("../shared/DOC.md"));
+        String program = Files.readString(Path.of("src/main/java/BatchPlans.java")).replaceAll("\\s+", " ");
+        int start = document.indexOf("```java\n") + "```java\n".length();
+        String[] lines = document.substring(start, document.indexOf("\n}", start)).split("\n");
+        Check.note("lines of the face", Integer.toString(lines.length), Integer.toString(FACE.length + 2));
+        for (String line : lines) {
+            String words = line.trim().replace(";", " {");
+            Check.note("the words " + words, Boolean.toString(program.contains(words)), "true");
+        }
     }
 
     private static TreeSet<String> seenMethods(Class<?> face) {

@@ -1,4 +1,6 @@
+import com.sun.management.ThreadMXBean;
 import java.io.IOException;
+import java.lang.management.ManagementFactory;
 import java.nio.charset.StandardCharsets;
 import java.nio.file.Files;
 import java.nio.file.Path;
@@ -6,12 +8,16 @@ import java.util.List;
 import java.util.regex.Matcher;
 import java.util.regex.Pattern;
 
-/** The rules of LANGUAGE.md that can be told from the words of the program; a number in front is the rule's. */
+/**
+ * The rules of LANGUAGE.md that can be told from the words of the program, and the room that its calls take;
+ * a number in front is the rule's.
+ */
 public final class LanguageTest {
     private static final Path PROGRAM = Path.of("src/main/java/BatchPlans.java");
     private static final int MOST_CLASSES = 12;
     private static final int MOST_LINES = 60;
     private static final int MOST_PARAMETERS = 7;
+    private static final int MOST_BYTES = 200_000;
 
     /** Rule, what it forbids, as a pattern. */
     private static final String[][] FORBIDDEN = {
@@ -41,7 +47,53 @@ public final class LanguageTest {
         long classes = Pattern.compile("\\b(class|record|enum|interface) \\w+").matcher(code).results().count();
         Check.note("rule 11 classes: " + classes, Boolean.toString(classes <= MOST_CLASSES), "true");
         checkMethods(code);
+        checkRoom();
         Check.end();
+    }
+
+    /** All calls of a run live in one room: an object and 512 calls that make or work out nodes stay far below it. */
+    private static void checkRoom() {
+        ThreadMXBean thread = (ThreadMXBean) ManagementFactory.getThreadMXBean();
+        // Once before it is measured, so that no class is loaded then.
+        makeNodes();
+        workOutNodes();
+        long before = thread.getCurrentThreadAllocatedBytes();
+        makeNodes();
+        long between = thread.getCurrentThreadAllocatedBytes();
+        workOutNodes();
+        long after = thread.getCurrentThreadAllocatedBytes();
+        dueRoom("making nodes", between - before);
+        dueRoom("working nodes out", after - between);
+    }
+
+    private static void dueRoom(String what, long bytes) {
+        Check.note("rule 12 bytes of " + what + ": " + bytes, Boolean.toString(bytes < MOST_BYTES), "true");
+    }
+
+    private static void makeNodes() {
+        BatchPlans x = new BatchPlans(1, 1);
+        for (int calls = 0; calls < 512; calls++) {
+            if (calls % 13 == 0) {
+                x.clear(true);
+            } else if (calls % 13 == 1) {
+                x.scan(0);
+            } else {
+                x.join(0, 0, 0, 0);
+            }
+        }
+    }
+
+    /** Two groups of 128 keys are joined in 128 rows. */
+    private static void workOutNodes() {
+        BatchPlans x = new BatchPlans(1, 1);
+        int keys = PlanCheck.numbered(x, 8, 16);
+        int last = x.join(x.group(keys, 2, 0), x.group(keys, 2, 1), 0, 0);
+        while (x.nodes() < 12) {
+            last = x.map(last, 1, 2, 4);
+        }
+        for (int calls = 48; calls < 512; calls++) {
+            x.run(last);
+        }
     }
 
     private static String found(String pattern, String code) {
