@@ -39,15 +39,15 @@ public final class WholeTest extends PlanCheck {
         return x;
     }
 
-    /** "the outcome is as if there were no limit": each node under each memory and each batch */
+    /** "the outcome is as if there were no limit": each node under each memory with each batch */
     private static void outcomeIsAsIfThereWereNoLimit() {
         for (int n = 0; n < NODES; n++) {
             String want = outcome(ofEveryKind(16, 64), n);
-            for (int memory = 1; memory <= 64; memory++) {
-                note("8 9 memory " + memory + ", node " + n, outcome(ofEveryKind(16, memory), n), want);
-            }
-            for (int batch = 1; batch <= 16; batch++) {
-                note("8 9 batch " + batch + ", node " + n, outcome(ofEveryKind(batch, 1), n), want);
+            for (int i = 0; i < 16 * 64; i++) {
+                int batch = 1 + i % 16;
+                int memory = 1 + i / 16;
+                note("8 9 batch " + batch + ", memory " + memory + ", node " + n,
+                        outcome(ofEveryKind(batch, memory), n), want);
             }
         }
         BatchPlans least = ofEveryKind(1, 1);
@@ -94,7 +94,7 @@ public final class WholeTest extends PlanCheck {
     /** "the outcome is as if there were no limit": what fails by one fails by all. */
     private static void failingIsAsIfThereWereNoLimit() {
         for (int memory = 1; memory <= 64; memory++) {
-            for (int batch = 1; batch <= 16; batch += 5) {
+            for (int batch = 1; batch <= 16; batch++) {
                 String what = "8 batch " + batch + ", memory " + memory + ", ";
                 BatchPlans x = thatFails(batch, memory);
                 x.run(4);
